@@ -33,6 +33,7 @@ public final class PromiseTest {
         refusal();
         block();
         replace();
+        replaceInARow();
         card();
         cardLeft();
         ride();
@@ -52,6 +53,7 @@ public final class PromiseTest {
         refusedOrder();
         undo();
         undoEachKind();
+        changesCounted();
         snapshot();
         restore();
         fullHouse();
@@ -427,7 +429,12 @@ public final class PromiseTest {
         x.setClosed(0, true);
         x.advance(480);
         check.due(false, x.isClosedDay(0, 0));
+        x.addProduct(0, 1, 0, 23, 2, 10);
+        check.due(true, x.isClosedDay(1, 0));
         x.clear();
+        x.addProduct(0, 1, 0, 23, 1, 10);
+        x.undo();
+        check.dueThrow(INDEX, () -> x.isClosedDay(0, 0));
         x.addGate(0, 0);
         x.addGate(0, 0);
         x.addGate(1, 0);
@@ -782,6 +789,33 @@ public final class PromiseTest {
         }
         check.due(20, x.system(5));
         check.due(0, x.card(3, 1));
+        x.undo();
+        check.due(19, x.replace(3));
+        check.due(19, x.card(0, 5));
+        x.undo();
+        check.due(1, read(x, "r3"));
+        x.undo();
+        check.due("UnsupportedOperationException", read(x, "r3;r19"));
+    }
+
+    /** Every card but the last one is replaced by the next one. */
+    private static void replaceInARow() {
+        check.begin("20 card, the longest row of replacements");
+        SkiPasses x = withProducts();
+        x.sell(2);
+        x.pass(0, 0);
+        for (int card = 0; card < 19; card++) {
+            check.due(card + 1, x.replace(card));
+        }
+        for (int card = 0; card < 20; card++) {
+            check.due(19, x.card(card, 5));
+            check.due(2, x.card(card, 0));
+            check.due(card == 19 ? -1 : card + 1, x.card(card, 4));
+            check.due(card == 19 ? 1 : 0, x.card(card, 2));
+        }
+        check.due(1, x.product(2, 7));
+        check.due(301, x.account(0));
+        check.dueThrow(STATE, () -> x.replace(19));
     }
 
     private static void card() {
@@ -1237,6 +1271,7 @@ public final class PromiseTest {
         check.due(3, read(x, "c0;c3;c3"));
         check.due(9, x.system(7));
         check.due(3, read(x, "w0;w10;o3"));
+        check.due(1, x.system(7));
         check.due(490, x.system(0));
         check.due(10, x.gate(3, 5));
         check.due(1, read(x, "w2880"));
@@ -1445,6 +1480,43 @@ public final class PromiseTest {
         write(x, "s1");
         x.undo();
         check.due(2, x.system(8));
+    }
+
+    /** Which calls are changes: a restore forgets all changes, so that each one can be counted alone. */
+    private static void changesCounted() {
+        check.begin("34 undo, what is a change");
+        SkiPasses x = withProducts();
+        x.sell(0);
+        x.snapshot();
+        x.restore();
+        dueChanges(x, 1, () -> x.addGate(0, 0));
+        dueChanges(x, 1, () -> x.addProduct(0, 1, 0, 0, 1, 1));
+        dueChanges(x, 1, () -> x.sell(0));
+        dueChanges(x, 1, () -> x.pass(0, 0));
+        dueChanges(x, 1, () -> x.advance(0));
+        dueChanges(x, 1, () -> x.setClosed(0, false));
+        dueChanges(x, 1, () -> x.block(0, false));
+        dueChanges(x, 1, () -> x.replace(0));
+        dueChanges(x, 1, () -> x.refund(0));
+        dueChanges(x, 1, () -> read(x, "s0*0"));
+        dueChanges(x, 1, () -> read(x, "s0;w5;c0"));
+        dueChanges(x, 0, () -> read(x, "s0;w5;c7"));
+        dueChanges(x, 0, () -> read(x, "s0;"));
+        dueChanges(x, 0, () -> x.append('s'));
+        dueChanges(x, 0, () -> x.snapshot());
+        dueChanges(x, 0, () -> x.reason(0, 0));
+        dueChanges(x, 0, () -> x.clear());
+    }
+
+    private static void dueChanges(SkiPasses x, int changes, Check.Call call) {
+        x.restore();
+        Object cards = x.system(5);
+        call.answer();
+        check.due(changes, x.system(9));
+        if (changes == 1) {
+            check.due(0, x.undo());
+            check.due(cards, x.system(5));
+        }
     }
 
     private static void snapshot() {
