@@ -19,6 +19,17 @@ final class Check {
         part = name;
     }
 
+    /** A test that throws has failed, but the ones after it still run. */
+    void run(Runnable... tests) {
+        for (Runnable test : tests) {
+            try {
+                test.run();
+            } catch (RuntimeException e) {
+                due("no exception", e.toString());
+            }
+        }
+    }
+
     void due(Object want, Object got) {
         asked++;
         if (!Objects.equals(want, got)) {
@@ -31,6 +42,10 @@ final class Check {
     /** The very class must be thrown, since the machine's own exceptions are subclasses of the document's. */
     void dueThrow(Class<? extends RuntimeException> want, Call call) {
         due(want.getSimpleName(), outcome(call));
+    }
+
+    int asked() {
+        return asked;
     }
 
     static Object outcome(Call call) {

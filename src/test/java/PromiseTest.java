@@ -1,88 +1,20 @@
 /** The promises one by one: ordinary inputs, the edges that the document names, and wrong inputs. */
-public final class PromiseTest {
-    private static final Class<IllegalArgumentException> ARGUMENT = IllegalArgumentException.class;
-    private static final Class<IllegalStateException> STATE = IllegalStateException.class;
-    private static final Class<IndexOutOfBoundsException> INDEX = IndexOutOfBoundsException.class;
-    private static final Class<UnsupportedOperationException> UNSUPPORTED = UnsupportedOperationException.class;
-    private static final Class<java.util.NoSuchElementException> ELEMENT = java.util.NoSuchElementException.class;
-    private static final Class<ArithmeticException> ARITHMETIC = ArithmeticException.class;
-    private static final int[] OUTSIDE = {-1, Integer.MIN_VALUE, Integer.MAX_VALUE, 1 << 16, -65536};
-
+public final class PromiseTest extends Steps {
     private static final Check check = new Check("PromiseTest");
 
     public static void main(String[] args) {
-        newObject();
-        clear();
-        addGate();
-        addProduct();
-        gate();
-        product();
-        way();
-        advance();
-        system();
-        setClosed();
-        closedMinutes();
-        isClosedDay();
-        sell();
-        pass();
-        reasonOrder();
-        reasonHours();
-        reasonValidity();
-        reasonWay();
-        openGates();
-        refusal();
-        block();
-        replace();
-        replaceInARow();
-        card();
-        cardLeft();
-        ride();
-        refundable();
-        refund();
-        share();
-        partner();
-        account();
-        meanRides();
-        closedShare();
-        isConsistent();
-        append();
-        readForm();
-        readOrders();
-        readRefused();
-        errorPosition();
-        refusedOrder();
-        undo();
-        undoEachKind();
-        changesCounted();
-        snapshot();
-        restore();
-        fullHouse();
+        check.run(PromiseTest::newObject, PromiseTest::clear, PromiseTest::addGate, PromiseTest::addProduct,
+            PromiseTest::gate, PromiseTest::product, PromiseTest::way, PromiseTest::advance, PromiseTest::system,
+            PromiseTest::setClosed, PromiseTest::closedMinutes, PromiseTest::isClosedDay, PromiseTest::sell,
+            PromiseTest::pass, PromiseTest::reasonOrder, PromiseTest::reasonHours, PromiseTest::reasonValidity,
+            PromiseTest::reasonWay, PromiseTest::openGates, PromiseTest::refusal, PromiseTest::block,
+            PromiseTest::replace, PromiseTest::replaceInARow, PromiseTest::card, PromiseTest::cardLeft,
+            PromiseTest::ride, PromiseTest::refundable, PromiseTest::refund, PromiseTest::share, PromiseTest::partner,
+            PromiseTest::account, PromiseTest::meanRides, PromiseTest::closedShare, PromiseTest::isConsistent,
+            PromiseTest::append, PromiseTest::readForm, PromiseTest::readOrders, PromiseTest::readRefused,
+            PromiseTest::errorPosition, PromiseTest::refusedOrder, PromiseTest::undo, PromiseTest::undoEachKind,
+            PromiseTest::changesCounted, PromiseTest::snapshot, PromiseTest::restore, PromiseTest::fullHouse);
         check.end();
-    }
-
-    /** Appends a text, four characters at a time. */
-    private static void write(SkiPasses x, String text) {
-        for (int i = 0; i < text.length(); i += 4) {
-            int packed = 0;
-            for (int j = i; j < i + 4 && j < text.length(); j++) {
-                packed = packed << 8 | text.charAt(j);
-            }
-            x.append(packed);
-        }
-    }
-
-    private static Object read(SkiPasses x, String text) {
-        write(x, text);
-        return Check.outcome(() -> x.read());
-    }
-
-    private static void wait(SkiPasses x, int minutes) {
-        int left = minutes;
-        while (left > 2880) {
-            x.advance(2880);
-            left -= 2880;
-        }
-        x.advance(left);
     }
 
     /** Gates 0 and 1 of partner 0 at 0 and 8, gate 2 of partner 1 at 8, gate 3 of partner 3 at 99. */
@@ -971,14 +903,6 @@ public final class PromiseTest {
             check.dueThrow(INDEX, () -> x.refund(wrong));
         }
         check.dueThrow(INDEX, () -> x.refund(4));
-    }
-
-    /** Rides at the gates, each long enough after the one before. */
-    private static void rides(SkiPasses x, int card, int... gates) {
-        for (int gate : gates) {
-            x.advance(109);
-            x.pass(card, gate);
-        }
     }
 
     private static void dueShares(SkiPasses x, int card, int... shares) {
